@@ -1,0 +1,147 @@
+import java.nio.charset.StandardCharsets;
+
+/** What the tests share: answers held against those that are due, and texts put on the tape. */
+final class Checks {
+    private int wrong = 0;
+    private int held = 0;
+
+    void due(String call, long got, long want) {
+        held++;
+        if (got != want) {
+            wrong++;
+            System.out.println(call + " answered " + got + ", due is " + want);
+        }
+    }
+
+    void due(String call, boolean got, boolean want) {
+        due(call, got ? 1 : 0, want ? 1 : 0);
+    }
+
+    void due(String call, String got, String want) {
+        held++;
+        if (!got.equals(want)) {
+            wrong++;
+            System.out.println(call + " answered '" + got + "', due is '" + want + "'");
+        }
+    }
+
+    void finish() {
+        System.out.println(held + " answers, " + wrong + " wrong");
+        if (wrong > 0) {
+            System.exit(1);
+        }
+    }
+
+    /** The tape is this text, and nothing else. */
+    static DoorOffice tell(DoorOffice x, String text) {
+        return tell(x, text.getBytes(StandardCharsets.ISO_8859_1));
+    }
+
+    static DoorOffice tell(DoorOffice x, byte[] text) {
+        x.end(0);
+        for (int i = 0; i < text.length; i += 20) {
+            x.feed(four(text, i), four(text, i + 4), four(text, i + 8), four(text, i + 12), four(text, i + 16));
+        }
+        x.end(text.length);
+        return x;
+    }
+
+    private static int four(byte[] text, int at) {
+        int value = 0;
+        for (int i = at; i < at + 4; i++) {
+            value = value << 8 | (i < text.length ? text[i] & 255 : ' ');
+        }
+        return value;
+    }
+
+    static byte[] wholes(int... wholes) {
+        byte[] bytes = new byte[2 * wholes.length];
+        for (int i = 0; i < wholes.length; i++) {
+            bytes[2 * i] = (byte) (wholes[i] >> 8);
+            bytes[2 * i + 1] = (byte) wholes[i];
+        }
+        return bytes;
+    }
+
+    static byte[] bytes(int... values) {
+        byte[] bytes = new byte[values.length];
+        for (int i = 0; i < values.length; i++) {
+            bytes[i] = (byte) values[i];
+        }
+        return bytes;
+    }
+
+    /** OUT as a text. */
+    static String out(DoorOffice x) {
+        StringBuilder text = new StringBuilder();
+        for (int i = 0; x.out(i) != DoorOffice.NONE; i++) {
+            text.append((char) x.out(i));
+        }
+        return text.toString();
+    }
+
+    /** The doors FOUND, each with ! if it is SURE. */
+    static String found(DoorOffice x) {
+        StringBuilder text = new StringBuilder();
+        for (int i = 0; x.found(i, 0) != DoorOffice.NONE; i++) {
+            text.append(i == 0 ? "" : " ").append(x.found(i, 0)).append(x.found(i, 1) == 1 ? "!" : "");
+        }
+        return text.toString();
+    }
+
+    static String walked(DoorOffice x) {
+        StringBuilder text = new StringBuilder();
+        for (int i = 0; x.walked(i) != DoorOffice.NONE; i++) {
+            text.append(i == 0 ? "" : " ").append(x.walked(i));
+        }
+        return text.toString();
+    }
+
+    static String pairs(DoorOffice x) {
+        StringBuilder text = new StringBuilder();
+        for (int i = 0; x.pair(i, 0) != DoorOffice.NONE; i++) {
+            text.append(i == 0 ? "" : " ").append(x.pair(i, 0)).append('-').append(x.pair(i, 1));
+        }
+        return text.toString();
+    }
+
+    static String sorted(DoorOffice x) {
+        StringBuilder text = new StringBuilder();
+        for (int i = 0; x.sorted(i, 0) != DoorOffice.NONE; i++) {
+            text.append(i == 0 ? "" : " ").append(x.sorted(i, 0)).append('>').append(x.sorted(i, 1));
+        }
+        return text.toString();
+    }
+
+    static int town(DoorOffice x, String name) {
+        return tell(x, name).town();
+    }
+
+    static int street(DoorOffice x, String name, int town, int rule, int from) {
+        return tell(x, name).street(town, rule, from);
+    }
+
+    static int rename(DoorOffice x, String name, int street, int from) {
+        return tell(x, name).rename(street, from);
+    }
+
+    static int means(DoorOffice x, String address, int day) {
+        return tell(x, address).means(day);
+    }
+
+    static int call(DoorOffice x, String address, int day) {
+        return tell(x, address).call(day);
+    }
+
+    static int letter(DoorOffice x, String address, int day) {
+        return tell(x, address).letter(day);
+    }
+
+    /** A new office with the town old (0) and the street elm (0) in it from day 0 on. */
+    static DoorOffice withStreet(int rule) {
+        DoorOffice x = new DoorOffice();
+        town(x, "old");
+        street(x, "elm", 0, rule, 0);
+        return x;
+    }
+}
