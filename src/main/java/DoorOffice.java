@@ -62,7 +62,8 @@ public final class DoorOffice {
     private static final int WORDS = 3;
     private static final int MAX_WORD = 12;
     private static final long LETTER_STEP = 27L;
-    private static final long FIRST_LETTER = 150094635296999121L;
+    // 27 to the 11th power: the place of the first of twelve letters.
+    private static final long FIRST_LETTER = 5559060566555523L;
 
     private final Bytes tape;
     private final Bytes sheet;
@@ -72,6 +73,8 @@ public final class DoorOffice {
     private final StreetView view;
     private final int[] fresh;
     private final int[] wholeOf;
+    private int oldDay;
+    private int oldDoor;
 
     public DoorOffice() {
         tape = new Bytes();
@@ -82,6 +85,8 @@ public final class DoorOffice {
         view = new StreetView();
         fresh = new int[MAX_DOORS];
         wholeOf = new int[MAX_SLOTS];
+        oldDay = NONE;
+        oldDoor = NONE;
     }
 
     // ---- the tape and the days
@@ -343,20 +348,9 @@ public final class DoorOffice {
     }
 
     public int row(int street, int side) {
-        int bytes = tape.n;
+        int answer = keepRow(street, side);
         tape.n = 0;
-        if (!now.streets.isStreet(street)) {
-            return NONE;
-        }
-        if (!isSide(side) || bytes % 2 != 0) {
-            return CANNOT_BE;
-        }
-        int wholes = bytes / 2;
-        now.streets.setRowLength(street, side, wholes);
-        for (int i = 0; i < wholes && i < MAX_DOORS; i++) {
-            now.streets.setRowWhole(street, side, i, tape.at[2 * i] * 256 + tape.at[2 * i + 1]);
-        }
-        return wholes;
+        return answer;
     }
 
     public int tear(int street, int side, int n) {
@@ -406,14 +400,17 @@ public final class DoorOffice {
             case 1:
                 return now.doors.front[door];
             case 2:
-            case 5:
-                return now.doors.street[2 * door + what / 5];
+                return now.doors.street[2 * door];
             case 3:
-            case 6:
-                return now.doors.side[2 * door + what / 5];
+                return now.doors.side[2 * door];
             case 4:
+                return now.doors.paces[2 * door];
+            case 5:
+                return now.doors.street[2 * door + 1];
+            case 6:
+                return now.doors.side[2 * door + 1];
             case 7:
-                return now.doors.paces[2 * door + what / 5];
+                return now.doors.paces[2 * door + 1];
             case 8:
                 return now.doors.k[door];
             case 9:
@@ -511,18 +508,12 @@ public final class DoorOffice {
         if (sure != NONE) {
             return sure;
         }
-        reader.forgetOld();
-        int town = now.streets.townNamed(reader.town);
-        for (int i = 0; i < now.names.n; i++) {
-            if (now.names.isNamed(i, reader.name, town)) {
-                seekOldIn(i, day);
-            }
-        }
-        if (reader.oldDoor == NONE) {
+        seekOld(day);
+        if (oldDoor == NONE) {
             return NONE;
         }
-        now.desk.ended = reader.oldDay + 1;
-        return OLD_CALL - reader.oldDoor;
+        now.desk.ended = oldDay + 1;
+        return OLD_CALL - oldDoor;
     }
 
     public int ended() {
@@ -663,24 +654,9 @@ public final class DoorOffice {
     }
 
     public int check(int day) {
-        int bytes = tape.n;
+        int answer = isDay(day) ? checkRecords(day) : CANNOT_BE;
         tape.n = 0;
-        if (!isDay(day)) {
-            return CANNOT_BE;
-        }
-        now.setWholesOn(day, wholeOf);
-        for (int at = 0; at < bytes; at += RECORD) {
-            if (at + RECORD > bytes || !isRecordOfList(at)) {
-                return at / RECORD;
-            }
-            wholeOf[2 * tape.at[at] + tape.at[at + 2]] = NONE;
-        }
-        for (int slot = 0; slot < 2 * now.doors.n; slot++) {
-            if (wholeOf[slot] != NONE) {
-                return LACKS + slot / 2;
-            }
-        }
-        return NONE;
+        return answer;
     }
 
     public int out(int i) {
@@ -758,7 +734,7 @@ public final class DoorOffice {
         return 2 * (paces / 10) + 1 + side;
     }
 
-    private static boolean isOddSide(int digits, int side) {
+    private static boolean areDigitsOfSide(int digits, int side) {
         return (digits & 1) == 1 - side;
     }
 
@@ -784,6 +760,21 @@ public final class DoorOffice {
         tape.n = 0;
         now.desk.fault = reader.fault;
         return isAddress;
+    }
+
+    private int keepRow(int street, int side) {
+        if (!now.streets.isStreet(street)) {
+            return NONE;
+        }
+        if (!isSide(side) || tape.n % 2 != 0) {
+            return CANNOT_BE;
+        }
+        int wholes = tape.n / 2;
+        now.streets.setRowLength(street, side, wholes);
+        for (int i = 0; i < wholes; i++) {
+            now.streets.setRowWhole(street, side, i, tape.at[2 * i] * 256 + tape.at[2 * i + 1]);
+        }
+        return wholes;
     }
 
     // ---- numbers
@@ -943,7 +934,19 @@ public final class DoorOffice {
         }
     }
 
-    /** Looks for the latest day ahead of a day on which the address was right by a span of its name. */
+    /** Looks for the latest day ahead of a day on which the address meant a door, and for that door. */
+    private void seekOld(int day) {
+        oldDay = NONE;
+        oldDoor = NONE;
+        int town = now.streets.townNamed(reader.town);
+        for (int i = 0; i < now.names.n; i++) {
+            if (now.names.isNamed(i, reader.name, town) && now.papers.isThere(now.names.opened[i])) {
+                seekOldIn(i, day);
+            }
+        }
+    }
+
+    /** The same by one span of its street's name. */
     private void seekOldIn(int name, int day) {
         int first = now.papers.startOf(now.names.opened[name]);
         int end = Math.min(day, now.papers.endOf(now.names.closed[name]));
@@ -951,10 +954,10 @@ public final class DoorOffice {
             boolean isNumber = now.numbers.whole[i] == reader.whole
                 && now.doors.streetOf(now.numbers.slot[i]) == now.names.street[name]
                 && now.papers.isThere(now.numbers.opened[i]);
-            if (isNumber && now.papers.isThere(now.names.opened[name])) {
+            if (isNumber) {
                 int start = Math.max(first, now.papers.startOf(now.numbers.opened[i]));
-                int stop = Math.min(end, now.papers.endOf(now.numbers.closed[i]));
-                seekOldAt(now.numbers.slot[i] / 2, start, stop);
+                int last = Math.min(end, now.papers.endOf(now.numbers.closed[i]));
+                seekOldAt(now.numbers.slot[i] / 2, start, last);
             }
         }
     }
@@ -964,9 +967,9 @@ public final class DoorOffice {
             if (isTold(door, front) && now.papers.isThere(now.doors.opened[door])) {
                 int from = Math.max(start, now.papers.startOf(now.doors.opened[door]));
                 int last = Math.min(end, now.papers.endOf(now.doors.closed[door])) - 1;
-                if (last >= from && last > reader.oldDay) {
-                    reader.oldDay = last;
-                    reader.oldDoor = door;
+                if (last >= from && last > oldDay) {
+                    oldDay = last;
+                    oldDoor = door;
                 }
             }
         }
@@ -1031,15 +1034,33 @@ public final class DoorOffice {
         sheet.put(wholeOf[slot]);
     }
 
-    private boolean isRecordOfList(int at) {
-        int door = tape.at[at];
-        int place = tape.at[at + 2];
-        if (door >= now.doors.n || place > 1) {
-            return false;
+    private int checkRecords(int day) {
+        now.setWholesOn(day, wholeOf);
+        for (int at = 0; at < tape.n; at += RECORD) {
+            int slot = slotOfRecord(at);
+            if (slot == NONE) {
+                return at / RECORD;
+            }
+            // What was told once is none of the list any more.
+            wholeOf[slot] = NONE;
         }
-        int slot = 2 * door + place;
+        for (int slot = 0; slot < 2 * now.doors.n; slot++) {
+            if (wholeOf[slot] != NONE) {
+                return LACKS + slot / 2;
+            }
+        }
+        return NONE;
+    }
+
+    /** The slot of which a record of the tape tells what the list has, or NONE. */
+    private int slotOfRecord(int at) {
+        if (at + RECORD > tape.n || tape.at[at] >= now.doors.n || tape.at[at + 2] > 1) {
+            return NONE;
+        }
+        int slot = 2 * tape.at[at] + tape.at[at + 2];
         int whole = tape.at[at + 3] * 65536 + tape.at[at + 4] * 256 + tape.at[at + 5];
-        return wholeOf[slot] == whole && now.doors.streetOf(slot) == tape.at[at + 1];
+        boolean isRight = wholeOf[slot] == whole && now.doors.streetOf(slot) == tape.at[at + 1];
+        return isRight ? slot : NONE;
     }
 
     // ---- the classes inside
@@ -1169,15 +1190,8 @@ public final class DoorOffice {
         int extra;
         int extraNumber;
         int fault = NONE;
-        int oldDay;
-        int oldDoor;
         private Bytes text;
         private int place;
-
-        void forgetOld() {
-            oldDay = NONE;
-            oldDoor = NONE;
-        }
 
         boolean readName(Bytes tape, ShortForms shortForms) {
             begin(tape);
@@ -1217,8 +1231,7 @@ public final class DoorOffice {
         }
 
         private boolean isNext(int least, int most) {
-            int next = text.byteAt(place);
-            return next >= least && next <= most;
+            return place < text.n && text.at[place] >= least && text.at[place] <= most;
         }
 
         private boolean readByte(int value) {
@@ -1232,7 +1245,7 @@ public final class DoorOffice {
         private long readWord() {
             long word = 0;
             for (int i = 0; i < MAX_WORD && isNext('a', 'z'); i++) {
-                word = word * LETTER_STEP + (text.byteAt(place) - 'a' + 1);
+                word = word * LETTER_STEP + (text.at[place] - 'a' + 1);
                 place++;
             }
             return word;
@@ -1275,7 +1288,7 @@ public final class DoorOffice {
         private int readDigits(int most) {
             int digits = 0;
             for (int i = 0; i < most && isNext(i == 0 ? '1' : '0', '9'); i++) {
-                digits = digits * 10 + text.byteAt(place) - '0';
+                digits = digits * 10 + text.at[place] - '0';
                 place++;
             }
             return digits;
@@ -1288,7 +1301,7 @@ public final class DoorOffice {
             }
             whole = 16 * digits;
             if (isNext('a', 'h')) {
-                whole += text.byteAt(place) - 'a' + 1;
+                whole += text.at[place] - 'a' + 1;
                 place++;
             } else if (readByte('+')) {
                 whole += MOST_LETTER;
@@ -1374,7 +1387,7 @@ public final class DoorOffice {
         }
 
         boolean isThere(int paper) {
-            return isPaper(paper) && (asKnown == NONE || known[paper] <= asKnown);
+            return paper >= 0 && paper < n && (asKnown == NONE || known[paper] <= asKnown);
         }
 
         int startOf(int opened) {
@@ -1391,7 +1404,7 @@ public final class DoorOffice {
         }
 
         boolean holds(int opened, int closed, int day) {
-            return isThere(opened) && from[opened] <= day && day < endOf(closed);
+            return isThere(opened) && from[opened] <= day && (!isThere(closed) || day < from[closed]);
         }
 
         boolean wasJoined(int town) {
@@ -1700,7 +1713,9 @@ public final class DoorOffice {
 
         /** Only as many wholes as there can be doors are kept. */
         void setRowWhole(int street, int side, int i, int whole) {
-            rowWhole[(2 * street + side) * MAX_DOORS + i] = whole;
+            if (i < MAX_DOORS) {
+                rowWhole[(2 * street + side) * MAX_DOORS + i] = whole;
+            }
         }
 
         /** NONE where the ROW does not tell one. */
@@ -2225,7 +2240,7 @@ public final class DoorOffice {
 
         private boolean isFreeByRule(int asked, int askedSide, int askedPaces) {
             int digits = asked / 16;
-            if (rule == SIDES && !isOddSide(digits, askedSide)) {
+            if (rule == SIDES && !areDigitsOfSide(digits, askedSide)) {
                 return false;
             }
             if (rule == PACES && digits != digitsByPaces(askedSide, askedPaces)) {
@@ -2236,7 +2251,7 @@ public final class DoorOffice {
 
         /** Whether a door of UNKNOWN number could have a number. */
         boolean couldHave(int i, int asked) {
-            if (whole[i] != UNKNOWN || rule == SIDES && !isOddSide(asked / 16, side[i])) {
+            if (whole[i] != UNKNOWN || rule == SIDES && !areDigitsOfSide(asked / 16, side[i])) {
                 return false;
             }
             return asked > lowAt(side[i], rank[i]) && asked < highAt(side[i], rank[i]);
