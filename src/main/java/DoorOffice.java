@@ -1407,6 +1407,21 @@ public final class DoorOffice {
             return isThere(opened) && from[opened] <= day && (!isThere(closed) || day < from[closed]);
         }
 
+        /** Opens again what the latest paper closed; how many are left without what it opened. */
+        static int keptWithout(int paper, int[] opened, int[] closed, int count) {
+            int kept = 0;
+            for (int i = 0; i < count; i++) {
+                if (closed[i] == paper) {
+                    closed[i] = NONE;
+                }
+                // What the latest paper opened stands behind all others.
+                if (opened[i] != paper) {
+                    kept++;
+                }
+            }
+            return kept;
+        }
+
         boolean wasJoined(int town) {
             for (int i = 0; i < n; i++) {
                 if (townB[i] == town) {
@@ -1474,17 +1489,7 @@ public final class DoorOffice {
         }
 
         void takeBack(int paper) {
-            int kept = 0;
-            for (int i = 0; i < n; i++) {
-                if (closed[i] == paper) {
-                    closed[i] = NONE;
-                }
-                // What the latest paper opened stands behind all others.
-                if (opened[i] != paper) {
-                    kept++;
-                }
-            }
-            n = kept;
+            n = Papers.keptWithout(paper, opened, closed, n);
         }
     }
 
@@ -1606,16 +1611,7 @@ public final class DoorOffice {
         }
 
         void takeBack(int paper) {
-            int kept = 0;
-            for (int i = 0; i < n; i++) {
-                if (closed[i] == paper) {
-                    closed[i] = NONE;
-                }
-                if (opened[i] != paper) {
-                    kept++;
-                }
-            }
-            n = kept;
+            n = Papers.keptWithout(paper, opened, closed, n);
         }
 
         static boolean areLike(long[] a, int atA, long[] b, int atB) {
@@ -1837,13 +1833,8 @@ public final class DoorOffice {
         }
 
         void takeBack(int paper) {
-            if (n > 0 && opened[n - 1] == paper) {
-                n--;
-            }
+            n = Papers.keptWithout(paper, opened, closed, n);
             for (int i = 0; i < n; i++) {
-                if (closed[i] == paper) {
-                    closed[i] = NONE;
-                }
                 if (cornered[i] == paper) {
                     cornered[i] = NONE;
                     setPlace(2 * i + 1, NONE, NONE, NONE);

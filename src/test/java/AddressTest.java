@@ -48,11 +48,16 @@ public final class AddressTest {
         c.due("as known: on the last day", x.number(0, 0, 109574, 0), 48);
         c.due("as known: no second place", x.number(0, 1, 30, 0), -1);
         x.as(-1);
+        x.door(0, 0, 90, 0, 40);
+        c.due("the next door", x.number(2, 0, 40, 0), 16);
+        c.due("place 2 is not the next door", x.number(1, 2, 40, 0), -1);
+        c.due("place 4 is not the next door but one", x.number(0, 4, 40, 0), -1);
+        c.due("place -2 is not the door ahead", x.number(2, -4, 39, 0), -1);
         c.due("what 3", x.number(0, 0, 6, 3), -1);
         c.due("what -1", x.number(0, 0, 6, -1), -1);
         c.due("place 2", x.number(0, 2, 6, 0), -1);
         c.due("place -1", x.number(0, -1, 6, 0), -1);
-        c.due("door 2", x.number(2, 0, 6, 0), -1);
+        c.due("door 3", x.number(3, 0, 6, 0), -1);
         c.due("door -1", x.number(-1, 0, 6, 0), -1);
         c.due("day -1", x.number(0, 0, -1, 0), -1);
         c.due("day 109575", x.number(0, 0, 109575, 0), -1);
@@ -125,6 +130,10 @@ public final class AddressTest {
         }
         dueFault(" elm 1, old", 0);
         dueFault("elm, old", 3);
+        dueFault("1, old", 0);
+        dueFault("elm1, old", 3);
+        dueFault("elm , old", 4);
+        dueFault(", old", 0);
         dueFault("elm 0, old", 4);
         dueFault("elm 1A, old", 5);
         dueFault("elm 1++, old", 6);
@@ -410,5 +419,10 @@ public final class AddressTest {
         c.due("ended", x.ended(), 20);
         c.due("gone with all", Checks.call(x, "oak 1, old", 25), -100);
         c.due("no such floor", Checks.call(x, "oak 1 floor 3, old", 25), -1);
+        x.door(0, 0, 70, 0, 30);
+        x.under(4, 4, 1, 30);
+        x.gone(5, 31);
+        c.due("for one day", Checks.call(x, "elm 1 floor 1, old", 40), -105);
+        c.due("ended", x.ended(), 31);
     }
 }

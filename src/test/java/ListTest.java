@@ -71,6 +71,10 @@ public final class ListTest {
         c.due("wrong door", check(x, 5, 3, 1, 0, 0, 0, 16), 0);
         c.due("a back", check(x, 5, 2, 0, 0, 0, 0, 0), 0);
         c.due("door 255", check(x, 5, 255, 255, 255, 255, 255, 255), 0);
+        c.due("door 255, place 0", check(x, 5, 255, 0, 0, 0, 0, 0), 0);
+        c.due("door 99, place 1", check(x, 5, 99, 0, 1, 255, 255, 255), 0);
+        c.due("door 0, place 2 is not door 1", check(x, 5, 0, 1, 2, 0, 0, 16), 0);
+        c.due("door 0, place 255", check(x, 5, 0, 1, 255, 0, 0, 16), 0);
         c.due("the second time", check(x, 5, 1, 1, 0, 0, 0, 16, 1, 1, 0, 0, 0, 16), 1);
         c.due("a piece", check(x, 5, 1, 1, 0, 0, 0, 16, 0, 1, 1, 0, 1), 1);
         c.due("a piece alone", check(x, 5, 1), 0);

@@ -206,6 +206,21 @@ public final class NamesTest {
         c.due("a town's name stays", Checks.town(x, "new"), -5);
     }
 
+    private static void joinedTownsAlone() {
+        DoorOffice x = new DoorOffice();
+        Checks.town(x, "old");
+        Checks.town(x, "new");
+        Checks.town(x, "far");
+        Checks.street(x, "elm", 0, 0, 3);
+        Checks.street(x, "oak", 1, 0, 5);
+        Checks.street(x, "ash", 2, 0, 90);
+        c.due("below b", x.join(0, 1, 4), -3);
+        c.due("below a", x.join(1, 0, 4), -3);
+        c.due("a third town does not matter", x.join(0, 1, 5), 1);
+        c.due("below the third town", x.join(2, 0, 89), -3);
+        c.due("all in the third", x.join(2, 0, 90), 2);
+    }
+
     private static void joiningRefused() {
         DoorOffice x = new DoorOffice();
         Checks.town(x, "old");
@@ -226,6 +241,7 @@ public final class NamesTest {
         c.due("taken back", x.undo(), 3);
         c.due("the town is there again", Checks.street(x, "fir", 1, 0, 0), 2);
         c.due("three streets", x.join(1, 0, 10), 1);
+        joinedTownsAlone();
         DoorOffice y = new DoorOffice();
         Checks.town(y, "old");
         Checks.town(y, "new");

@@ -50,6 +50,26 @@ public final class PairsTest {
         x.door(1, 0, 99, 96, 100);
         x.twice(0, 0, 1);
         c.due("with a corner", Checks.pairs(x), "1-3 5-6");
+        x.as(-1);
+        manyPairs();
+    }
+
+    private static void manyPairs() {
+        DoorOffice x = towns();
+        int[] wholes = {640, 480, 560, 320, 160, 400};
+        for (int i = 0; i < wholes.length; i++) {
+            int other = wholes[wholes.length - 1 - i];
+            x.door(0, 0, wholes[i], wholes[i], 0);
+            x.door(1, 1, other, other, 0);
+        }
+        c.due("six pairs", x.twice(0, 0, 1), 6);
+        int last = 0;
+        for (int i = 0; i < 6; i++) {
+            int whole = x.number(x.pair(i, 0), 0, 0, 0);
+            c.due("pair " + i + " of like numbers", x.number(x.pair(i, 1), 0, 0, 0), whole);
+            c.due("pair " + i + " in order", whole > last, true);
+            last = whole;
+        }
     }
 
     private static void townsJoined() {
@@ -78,6 +98,8 @@ public final class PairsTest {
         c.due("one", x.twice(0, 0, 1), 1);
         c.due("no street", x.twice(0, 0, 5), -1);
         c.due("no street", x.twice(0, -1, 0), -1);
+        c.due("no street", x.twice(0, 0, -1), -1);
+        c.due("no street", x.twice(0, 5, 0), -1);
         c.due("no streets, the same", x.twice(0, 7, 7), -1);
         c.due("no town", x.twice(1, 0, 2), -1);
         c.due("no town", x.twice(1, -1, 1), -1);

@@ -42,6 +42,11 @@ public final class UnderTest {
         c.due("then", x.under(3, 2, 2, 20), 11);
         c.due("it is a paper on both", x.door(0, 0, 95, 0, 19), -3);
         c.due("too early and there", x.under(3, 2, 1, 6), -3);
+        x.under(3, 2, 3, 25);
+        c.due("it is a paper on the second street", x.door(1, 0, 95, 0, 24), -3);
+        x.gone(12, 30);
+        c.due("gone is a paper on the second street", x.door(1, 0, 95, 0, 29), -3);
+        c.due("gone is a paper on the first street", x.door(0, 0, 95, 0, 29), -3);
     }
 
     private static void refusedUnders() {
