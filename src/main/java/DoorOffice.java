@@ -919,17 +919,17 @@ public final class DoorOffice {
             && now.doors.k[door] == reader.extraNumber;
     }
 
-    private void findOne(int front, int day, int sure, int gap) {
+    private void findOne(int front, int day, int sure, int rank) {
         int door = toldOf(front, day);
         if (door != NONE) {
-            now.desk.addFound(door, sure, gap);
+            now.desk.addFound(door, sure, rank);
         }
     }
 
     private void findLikely(int day) {
         for (int i = 0; i < view.n; i++) {
             if (view.couldHave(i, reader.whole)) {
-                findOne(view.slot[i] / 2, day, 0, view.unknownInGapOf(i));
+                findOne(view.slot[i] / 2, day, 0, view.likelyRankOf(i));
             }
         }
     }
@@ -1855,7 +1855,7 @@ public final class DoorOffice {
         int sorted;
         final int[] foundDoor = new int[MAX_DOORS];
         final int[] foundSure = new int[MAX_DOORS];
-        final int[] foundGap = new int[MAX_DOORS];
+        final int[] foundRank = new int[MAX_DOORS];
         final int[] pairA = new int[MAX_SLOTS];
         final int[] pairB = new int[MAX_SLOTS];
         final int[] pairWhole = new int[MAX_SLOTS];
@@ -1887,21 +1887,20 @@ public final class DoorOffice {
             System.arraycopy(other.sortedDoor, 0, sortedDoor, 0, sorted);
         }
 
-        /** Those of smaller gaps stand ahead, those of like gaps as they came. */
-        void addFound(int door, int sure, int gap) {
+        void addFound(int door, int sure, int rank) {
             if (found >= MAX_DOORS) {
                 return;
             }
             int at = found;
-            while (at > 0 && foundGap[at - 1] > gap) {
+            while (at > 0 && foundRank[at - 1] > rank) {
                 foundDoor[at] = foundDoor[at - 1];
                 foundSure[at] = foundSure[at - 1];
-                foundGap[at] = foundGap[at - 1];
+                foundRank[at] = foundRank[at - 1];
                 at--;
             }
             foundDoor[at] = door;
             foundSure[at] = sure;
-            foundGap[at] = gap;
+            foundRank[at] = rank;
             found++;
         }
 
@@ -2248,7 +2247,12 @@ public final class DoorOffice {
             return asked > lowAt(side[i], rank[i]) && asked < highAt(side[i], rank[i]);
         }
 
-        int unknownInGapOf(int i) {
+        /** By the gap, then by side and paces, even where the gap was counted along the ring. */
+        int likelyRankOf(int i) {
+            return (2 * unknownInGapOf(i) + side[i]) * SIDE_STEP + paces[i];
+        }
+
+        private int unknownInGapOf(int i) {
             int unknown = 1;
             for (int j = i - 1; j >= 0 && isInGap(j, i); j--) {
                 unknown++;

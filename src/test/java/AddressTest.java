@@ -12,6 +12,8 @@ public final class AddressTest {
         likelyByGaps();
         likelyByRule();
         likelyAlongRing();
+        likelyByPaces();
+        likelyByPacesBehindGaps();
         meaningAsKnown();
         refusedMeanings();
         calls();
@@ -316,6 +318,43 @@ public final class AddressTest {
         c.due("round now: left, then right, one gap", Checks.found(x), "1 2");
         Checks.means(x, "elm 1a, old", 1);
         c.due("round now", Checks.found(x), "1 2");
+    }
+
+    private static void likelyByPaces() {
+        DoorOffice x = Checks.withStreet(1);
+        int[][] places = {{1, 20, 64}, {1, 0, 80}, {0, 9999, 32}, {1, 9999, 48}, {0, 0, 16}};
+        for (int[] place : places) {
+            x.door(0, place[0], place[1], place[2], 0);
+        }
+        c.due("all unknown", x.renumber(0, 3, 1), 5);
+        Checks.means(x, "elm 3, old", 1);
+        c.due("as given: the left is the smaller gap", Checks.found(x), "4 2 1 0 3");
+        x.under(2, 0, 0, 1);
+        x.under(2, 3, 0, 1);
+        x.under(2, 4, 0, 1);
+        c.due("all known", x.renumber(0, 1, 2), 5);
+        Checks.means(x, "elm 3, old", 1);
+        c.due("round now: the right by paces, rising", Checks.found(x), "4 2 1 0 3");
+        Checks.means(x, "elm 3 back, old", 1);
+        c.due("backs by the places of their fronts", Checks.found(x), "7 5 6");
+        Checks.means(x, "elm 3, old", 2);
+        c.due("known then", Checks.found(x), "3!");
+    }
+
+    private static void likelyByPacesBehindGaps() {
+        DoorOffice x = Checks.withStreet(3);
+        int[][] places = {{1, 10}, {1, 50}, {0, 10}, {1, 40}};
+        for (int[] place : places) {
+            x.door(0, place[0], place[1], 0, 0);
+        }
+        x.renumber(0, 3, 0);
+        c.due("told", x.door(0, 1, 20, 32, 0), 4);
+        c.due("told", x.door(0, 1, 30, 80, 0), 5);
+        x.renumber(0, 1, 1);
+        Checks.means(x, "elm 3, old", 0);
+        c.due("the gap counts ahead of side and paces", Checks.found(x), "0 2 3 1");
+        Checks.means(x, "elm 1, old", 0);
+        c.due("one gap of the ring", Checks.found(x), "2 3 1");
     }
 
     private static void meaningAsKnown() {

@@ -836,12 +836,13 @@ final class Model {
                 int[] gap = gap(line, i);
                 boolean could = a.whole == 0 && (rule != 0 || n / 16 % 2 == 1 - a.side);
                 if (could && gap[0] < n && n < gap[1] && told >= 0) {
-                    likely.add(new int[] {told, 0, gap[2]});
+                    likely.add(new int[] {told, 0, gap[2], a.side, a.paces});
                 }
             }
         }
         if (!sure) {
-            likely.sort(Comparator.comparingInt((int[] l) -> l[2]));
+            likely.sort(Comparator.comparingInt((int[] l) -> l[2])
+                .thenComparingInt(l -> l[3]).thenComparingInt(l -> l[4]));
             doors.addAll(likely);
         }
     }
