@@ -85,12 +85,32 @@ public final class ModelRunsTest {
         return chance(2) ? ODD[n(ODD.length)] : NAMES[n(NAMES.length)];
     }
 
+    private String number() {
+        return (1 + n(14)) + (chance(30) ? "" + "abcdefgh+".charAt(n(9)) : "");
+    }
+
+    private String extra(int percent) {
+        if (!chance(percent)) {
+            return "";
+        }
+        return n(3) == 0 ? " back" : (n(2) == 0 ? " court " : " floor ") + (1 + n(3));
+    }
+
+    /** Any number under a name that the street has on some day: so that many doors are LIKELY. */
+    private String addressIn(Model.Street street) {
+        Model.Span s = street.names.get(n(street.names.size()));
+        return s.name + " " + number() + extra(10) + ", " + m.towns.get(s.value);
+    }
+
     private String address() {
         if (chance(6)) {
             return ODD[n(ODD.length)];
         }
         Model.World w = m.all();
-        String text = name() + " " + (1 + n(14)) + (chance(30) ? "" + "abcdefgh+".charAt(n(9)) : "");
+        if (!w.streets.isEmpty() && chance(40)) {
+            return addressIn(w.streets.get(n(w.streets.size())));
+        }
+        String text = name() + " " + number();
         if (!w.doors.isEmpty() && chance(50)) {
             Model.Door d = w.front(w.doors.get(n(w.doors.size())));
             int place = d.place[1] != null && n(2) == 0 ? 1 : 0;
@@ -103,10 +123,7 @@ public final class ModelRunsTest {
                 text = s.name + " " + value / 16 + letter;
             }
         }
-        if (chance(30)) {
-            text += n(3) == 0 ? " back" : (n(2) == 0 ? " court " : " floor ") + (1 + n(3));
-        }
-        return text + ", " + (m.towns.isEmpty() || chance(10) ? name() : m.towns.get(n(m.towns.size())));
+        return text + extra(30) + ", " + (m.towns.isEmpty() || chance(10) ? name() : m.towns.get(n(m.towns.size())));
     }
 
     private byte[] row() {
