@@ -4,12 +4,18 @@ import java.nio.charset.StandardCharsets;
 final class Checks {
     private int wrong = 0;
     private int held = 0;
+    private String sentence = "";
+
+    /** The sentence of the document that the next answers are held against. */
+    void sentence(String text) {
+        sentence = text + " | ";
+    }
 
     void due(String call, long got, long want) {
         held++;
         if (got != want) {
             wrong++;
-            System.out.println(call + " answered " + got + ", due is " + want);
+            System.out.println(sentence + call + " answered " + got + ", due is " + want);
         }
     }
 
@@ -21,7 +27,7 @@ final class Checks {
         held++;
         if (!got.equals(want)) {
             wrong++;
-            System.out.println(call + " answered '" + got + "', due is '" + want + "'");
+            System.out.println(sentence + call + " answered '" + got + "', due is '" + want + "'");
         }
     }
 
