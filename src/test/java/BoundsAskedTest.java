@@ -23,6 +23,7 @@ public final class BoundsAskedTest {
         likelyAtTheEnds();
         likelyThen();
         likelyRuleAndOrderNow();
+        likelyByTheRuleOfItsStreet();
         likelyWithExtra();
         likelyByFewerUnknown();
         likelyBySideAndPaces();
@@ -32,6 +33,7 @@ public final class BoundsAskedTest {
         callSure();
         callOld();
         callNone();
+        callAsKnown();
         endedAheadOfAny();
         endedOfTheLatestOld();
         twiceOfStreets();
@@ -98,7 +100,9 @@ public final class BoundsAskedTest {
         x.undo();
         x.undo();
         c.due("the paper is taken back", x.about(0, 0), 0);
-        c.due("the paper is taken back", x.about(0, 5), NONE);
+        for (int what = 5; what <= 7; what++) {
+            c.due("its second place is taken back, " + what, x.about(0, what), NONE);
+        }
     }
 
     private static void standsOnDays() {
@@ -158,6 +162,8 @@ public final class BoundsAskedTest {
             c.due("day " + day, x.number(0, 0, day, 0), NONE);
         }
         c.due("a place that it does not have", x.number(1, 1, 5, 0), NONE);
+        c.due("place -1 is not the second place of the door ahead", x.number(1, -1, 5, 0), NONE);
+        c.due("place 2 is not the first place of the next door", x.number(0, 2, 5, 0), NONE);
     }
 
     private static void writeNone() {
@@ -186,6 +192,8 @@ public final class BoundsAskedTest {
         }
         for (int none : new int[] {-1, 2, LEAST_INT, MOST_INT}) {
             c.due("place " + none, x.write(0, none, 9), NONE);
+            c.due("place " + none, x.write(0, none, 5), NONE);
+            c.due("place " + none, x.write(1, none, 5), NONE);
         }
     }
 
@@ -294,6 +302,17 @@ public final class BoundsAskedTest {
             Checks.means(x, "elm 4c, old", 1);
             c.due("even digits, rule " + rule, Checks.found(x), rule == 0 ? "2" : rule == 1 ? "0 1" : "2 0 1");
         }
+        DoorOffice x = Checks.withStreet(3);
+        x.door(0, 0, 10, 0, 0);
+        x.door(0, 1, 10, 0, 0);
+        x.renumber(0, 3, 0);
+        x.renumber(0, 0, 1);
+        for (int digits : new int[] {1, 2, 9, 10, 15, 16, 99, 100, 1001, 1002, 9998, 9999}) {
+            for (String letter : new String[] {"", "a", "+"}) {
+                Checks.means(x, "elm " + digits + letter + ", old", 0);
+                c.due("by SIDES: " + digits + letter, Checks.found(x), digits % 2 == 1 ? "0" : "1");
+            }
+        }
     }
 
     private static void likelyBetweenKnownOnes() {
@@ -364,6 +383,23 @@ public final class BoundsAskedTest {
         c.due("by ROUND: the right is not ahead of 6", Checks.found(x), "0 1");
     }
 
+    private static void likelyByTheRuleOfItsStreet() {
+        c.sentence("IV: RULE and ORDER as the street has them now: that street");
+        DoorOffice x = Checks.withStreet(1);
+        Checks.street(x, "oak", 0, 3, 0);
+        x.door(1, 0, 10, 0, 0);
+        x.door(1, 1, 10, 0, 0);
+        x.renumber(1, 3, 0);
+        x.door(1, 0, 20, 80, 0);
+        Checks.means(x, "oak 7, old", 0);
+        c.due("by sides: the right is not bound", Checks.found(x), "1");
+        Checks.means(x, "oak 4, old", 0);
+        c.due("by sides", Checks.found(x), "0 1");
+        x.renumber(0, 0, 0);
+        Checks.means(x, "oak 4, old", 0);
+        c.due("the rule of another street does not matter", Checks.found(x), "0 1");
+    }
+
     private static void likelyWithExtra() {
         c.sentence("IV: of each the one under it, with EXTRA, if it has one: LIKELY");
         DoorOffice x = burnt();
@@ -392,6 +428,13 @@ public final class BoundsAskedTest {
         x.gone(4, 4);
         Checks.means(x, "elm 3, old", 4);
         c.due("one left", Checks.found(x), "1 2 6");
+        DoorOffice y = Checks.withStreet(3);
+        y.door(0, 0, 10, 0, 0);
+        y.door(0, 0, 20, 0, 0);
+        y.door(0, 1, 9999, 0, 0);
+        y.renumber(0, 3, 0);
+        Checks.means(y, "elm 3, old", 0);
+        c.due("one right, far away, two left", Checks.found(y), "2 0 1");
     }
 
     private static void likelyBySideAndPaces() {
@@ -528,6 +571,28 @@ public final class BoundsAskedTest {
         c.due("no such day", Checks.call(x, "oak 1, old", LAST + 1), -2);
     }
 
+    private static void callAsKnown() {
+        c.sentence("29: an ADDRESS that is called on a day, as known: what is KNOWN later it never meant");
+        DoorOffice x = office();
+        x.day(9);
+        x.under(4, 0, 1, 10);
+        x.door(0, 0, 50, 0, 10);
+        x.renumber(0, 0, 20);
+        Checks.rename(x, "fir", 1, 20);
+        x.gone(0, 30);
+        x.gone(6, 30);
+        x.gone(1, 30);
+        String[] addresses = {"elm 1 floor 1, old", "elm 2, old", "elm 3, old", "fir 1, old", "oak 1, old", "elm 1, old"};
+        int[] due = {-105, -106, -106, -101, -101, -100};
+        int[] dueKnown = {NONE, NONE, NONE, NONE, 1, 0};
+        for (int i = 0; i < addresses.length; i++) {
+            x.as(9);
+            c.due("as known on its day: " + addresses[i], Checks.call(x, addresses[i], 50), due[i]);
+            x.as(8);
+            c.due("as known ahead: " + addresses[i], Checks.call(x, addresses[i], 50), dueKnown[i]);
+        }
+    }
+
     private static void endedAheadOfAny() {
         c.sentence("30: NONE ahead of any");
         DoorOffice x = office();
@@ -621,6 +686,17 @@ public final class BoundsAskedTest {
         c.due("by open spans", Checks.pairs(x), "2-7 3-6 4-5");
         Checks.town(x, "far");
         c.due("a town without streets", x.twice(1, 0, 2), 0);
+        DoorOffice y = new DoorOffice();
+        Checks.town(y, "old");
+        Checks.town(y, "new");
+        for (int street = 0; street < 12; street++) {
+            Checks.street(y, "" + (char) ('a' + street), 0, 3, 0);
+            Checks.street(y, "" + (char) ('a' + street), 1, 3, 0);
+        }
+        y.door(23, 0, 10, 0, 0);
+        y.door(22, 1, 20, 0, 0);
+        c.due("the last streets alone have doors", y.twice(1, 0, 1), 1);
+        c.due("the last streets alone have doors", Checks.pairs(y), "1-0");
     }
 
     private static void twiceRefused() {
@@ -685,6 +761,12 @@ public final class BoundsAskedTest {
         c.due("none left", x.free(0, 0, 0), -4);
         c.due("a door stands there", x.free(0, 0, 20), -5);
         c.due("a door stands there, too", x.free(0, 0, 10), -5);
+        DoorOffice y = Checks.withStreet(0);
+        y.door(0, 0, 10, 16, 0);
+        y.door(0, 0, 20, 25, 0);
+        y.door(0, 0, 30, 48, 0);
+        c.due("the door that stands there is neither behind nor ahead", y.free(0, 0, 20), -5);
+        c.due("behind it there is none", y.free(0, 0, 21), -4);
         x.gone(1, LAST);
         c.due("it is gone from the last day on", x.free(0, 0, 20), 48);
         while (x.count(3) < 200) {

@@ -378,6 +378,14 @@ public final class BoundsDaysTest {
             c.due("paper " + second, lay(x, second, 0, 5) >= 0, true);
         }
         c.due("a new street beside one of a later day", Checks.street(manyDoors(), "box", 0, 0, 0), 3);
+        DoorOffice x = manyDoors();
+        x.door(1, 0, 500, 0, 50);
+        x.corner(2, 2, 0, 500, 0, 51);
+        x.under(2, 3, 0, 52);
+        x.gone(3, 53);
+        x.renumber(1, 0, 54);
+        c.due("renamed", Checks.rename(x, "fir", 1, 55), 1);
+        c.due("none of them was a paper on elm", x.renumber(0, 3, 1), 10);
     }
 
     private static void fromOfCorners() {
@@ -441,6 +449,16 @@ public final class BoundsDaysTest {
             Checks.town(z, "far");
             Checks.street(z, "fir", 2, 0, 50);
             c.due("a street of a third town does not matter", z.join(ab[0], ab[1], 0) >= 0, true);
+            DoorOffice v = office();
+            Checks.town(v, "far");
+            Checks.town(v, "gap");
+            v.renumber(0, 3, 60);
+            c.due("the first street does not matter to other towns", v.join(1 + ab[0], 1 + ab[1], 5) >= 0, true);
+            DoorOffice w = office();
+            Checks.town(w, "far");
+            Checks.town(w, "gap");
+            w.join(0, 3, 70);
+            c.due("a join of the first town does not matter to other towns", w.join(1 + ab[0], 1 + ab[1], 5) >= 0, true);
         }
     }
 }

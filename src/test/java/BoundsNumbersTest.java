@@ -503,6 +503,17 @@ public final class BoundsNumbersTest {
         c.due("ten", y.renumber(0, 2, 0), 10);
         dueWholes("ten of like digits", y, 57, 56, 55, 54, 53, 52, 51, 50, 49, 48);
         c.due("the next digits are free", y.free(0, 0, 20), 80);
+        for (int side = 0; side < 2; side++) {
+            DoorOffice z = Checks.withStreet(3);
+            for (int at = 9989; at <= 9999; at++) {
+                z.door(0, side, at, 0, 0);
+            }
+            c.due("eleven", z.renumber(0, 2, 0), 11);
+            c.due("the one ahead", now(z, 0), 16 * (1997 + side));
+            for (int i = 1; i <= 10; i++) {
+                c.due("of the last ten paces", now(z, i), 16 * (1999 + side) + i - 1);
+            }
+        }
     }
 
     private static void renumberedAsGiven() {
@@ -516,6 +527,15 @@ public final class BoundsNumbersTest {
         dueWholes("a row alone changes nothing", x, 16, 25, 0xffe9, 17, 18);
         c.due("until it is renumbered", x.renumber(0, 3, 0), 3);
         dueWholes("given anew", x, 20, 21, 22, 17, 18);
+        DoorOffice y = Checks.withStreet(3);
+        int[] wholes = new int[100];
+        for (int i = 0; i < 100; i++) {
+            y.door(0, 1, 99 * i, 0, 0);
+            wholes[i] = 800 + 16 * i;
+        }
+        Checks.tell(y, Checks.wholes(wholes)).row(0, 1);
+        c.due("as many as there can be doors", y.renumber(0, 3, 0), 100);
+        dueWholes("a long row", y, wholes);
     }
 
     private static void givenUnknown() {

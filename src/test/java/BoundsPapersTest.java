@@ -26,6 +26,7 @@ public final class BoundsPapersTest {
         doorRefusals();
         doorSecondPlaces();
         doorRoom();
+        spansRoom();
         cornerRefusals();
         cornerFromItsDayOn();
         cornerRoom();
@@ -42,6 +43,9 @@ public final class BoundsPapersTest {
         rowsOfPairs();
         rowRefusals();
         rowIsNoPaper();
+        rowOfEachSide();
+        rowLongerThanDoors();
+        namesWithoutEnd();
         tearBehindN();
         tearBurnt();
         tearRefusals();
@@ -393,6 +397,34 @@ public final class BoundsPapersTest {
         c.due("spans", x.count(4), 1);
     }
 
+    private static void spansRoom() {
+        c.sentence("10, 11: -6 3000 SPANS of numbers");
+        DoorOffice x = Checks.withStreet(0);
+        Checks.street(x, "oak", 0, 3, 0);
+        for (int i = 0; i < 54; i++) {
+            x.door(0, 1, i, 0, 0);
+        }
+        x.door(1, 0, 10, 0, 0);
+        for (int i = 0; i < 54; i++) {
+            x.renumber(0, i % 2 == 0 ? 3 : 0, 0);
+        }
+        while (x.count(4) < 2999) {
+            x.renumber(1, x.count(101) == 3 ? 0 : 3, 0);
+        }
+        c.due("papers", x.count(3) < 200, true);
+        c.due("2999 spans", x.count(4), 2999);
+        c.due("a corner is the 3000th", x.corner(54, 0, 1, 100, 0, 0) > 0, true);
+        c.due("a corner more", x.corner(0, 1, 0, 100, 0, 0), -6);
+        c.due("a door more", x.door(1, 0, 100, 0, 0), -6);
+        c.due("3000 spans", x.count(4), 3000);
+        x.undo();
+        c.due("a door is the 3000th", x.door(1, 0, 100, 0, 0), 55);
+        c.due("a door more", x.door(1, 0, 200, 0, 0), -6);
+        c.due("a corner more", x.corner(0, 1, 0, 200, 0, 0), -6);
+        c.due("a floor has no number", x.under(4, 0, 1, 0), 56);
+        c.due("3000 spans", x.count(4), 3000);
+    }
+
     private static DoorOffice twoStreets() {
         DoorOffice x = Checks.withStreet(3);
         Checks.street(x, "oak", 0, 3, 0);
@@ -720,6 +752,96 @@ public final class BoundsPapersTest {
         c.due("renumbered by it", x.renumber(0, 3, 0), 1);
         c.due("taken back", x.undo(), 6);
         c.due("the row stays", x.tear(0, 0, MOST_INT), 1);
+    }
+
+    private static void rowOfEachSide() {
+        c.sentence("17: the ROW of a side of a street: each has its own");
+        DoorOffice x = new DoorOffice();
+        Checks.town(x, "old");
+        for (int street = 0; street < 24; street++) {
+            Checks.street(x, "" + (char) ('a' + street), 0, 3, 0);
+            c.due("never there, left", x.tear(street, 0, 9), NONE);
+            c.due("never there, right", x.tear(street, 1, 9), NONE);
+        }
+        for (int street = 0; street < 24; street++) {
+            for (int side = 0; side < 2; side++) {
+                x.door(street, side, 10, 0, 0);
+                Checks.tell(x, Checks.wholes(1600 + 32 * street + 16 * side)).row(street, side);
+            }
+        }
+        for (int street = 0; street < 24; street++) {
+            x.renumber(street, 3, 0);
+            c.due("left of " + street, x.number(2 * street, 0, 0, 0), 1600 + 32 * street);
+            c.due("right of " + street, x.number(2 * street + 1, 0, 0, 0), 1616 + 32 * street);
+        }
+    }
+
+    private static void rowLongerThanDoors() {
+        c.sentence("17: how many: a ROW may be longer than there can be doors");
+        DoorOffice x = new DoorOffice();
+        Checks.town(x, "old");
+        for (int street = 0; street < 24; street++) {
+            Checks.street(x, "" + (char) ('a' + street), 0, 3, 0);
+        }
+        x.door(0, 0, 10, 0, 0);
+        x.door(0, 1, 10, 0, 0);
+        x.door(23, 0, 10, 0, 0);
+        x.door(23, 1, 10, 0, 0);
+        Checks.tell(x, Checks.wholes(160)).row(0, 1);
+        Checks.tell(x, Checks.wholes(176)).row(23, 0);
+        int[] wholes = new int[600];
+        for (int i = 0; i < wholes.length; i++) {
+            wholes[i] = 320 + 16 * i;
+        }
+        c.due("left of the first", Checks.tell(x, Checks.wholes(wholes)).row(0, 0), 600);
+        c.due("right of the last", Checks.tell(x, Checks.wholes(wholes)).row(23, 1), 600);
+        x.renumber(0, 3, 0);
+        x.renumber(23, 3, 0);
+        int[] due = {320, 160, 176, 320};
+        for (int door = 0; door < 4; door++) {
+            c.due("door " + door, x.number(door, 0, 0, 0), due[door]);
+        }
+        c.due("it had 600", x.tear(0, 0, 100), 600);
+        c.due("it had 100", x.tear(0, 0, 1), 100);
+    }
+
+    /** Names of twenty bytes need no end(): so as many as can be fit into 512 calls. */
+    private static String longName(int i) {
+        return "abcdefghijkl mnopq" + (char) ('a' + i / 26) + (char) ('a' + i % 26);
+    }
+
+    private static DoorOffice feedName(DoorOffice x, int i) {
+        byte[] b = longName(i).getBytes(java.nio.charset.StandardCharsets.ISO_8859_1);
+        int[] n = new int[5];
+        for (int j = 0; j < 20; j++) {
+            n[j / 4] = n[j / 4] << 8 | b[j];
+        }
+        x.feed(n[0], n[1], n[2], n[3], n[4]);
+        return x;
+    }
+
+    private static void namesWithoutEnd() {
+        c.sentence("15, 16: there is room for as many NAMES and towns of streets as 200 PAPERS can give");
+        DoorOffice x = new DoorOffice();
+        for (int town = 0; town < 8; town++) {
+            feedName(x, town).town();
+        }
+        for (int street = 0; street < 24; street++) {
+            c.due("street", feedName(x, 10 + street).street(0, 3, 0), street);
+        }
+        x.door(23, 0, 10, 0, 0);
+        for (int town = 1; town < 8; town++) {
+            c.due("all streets are joined to town " + town, x.join(town, town - 1, 10 * town), 24);
+        }
+        for (int i = x.count(3); i < 200; i++) {
+            c.due("renamed", feedName(x, 200 + i).rename(23, 100 + i), 1);
+        }
+        c.due("no paper more", feedName(x, 400).rename(23, 400), -6);
+        c.due("its last name, and the last town", Checks.means(x, longName(399) + " 1, " + longName(7), LAST), 1);
+        c.due("the name ahead of it", Checks.means(x, longName(398) + " 1, " + longName(7), 298), 1);
+        c.due("not any more", Checks.means(x, longName(398) + " 1, " + longName(7), 299), 0);
+        c.due("its first name, in the third town", Checks.means(x, longName(33) + " 1, " + longName(2), 20), 1);
+        c.due("not any more", Checks.means(x, longName(33) + " 1, " + longName(2), 30), 0);
     }
 
     private static void tearBehindN() {

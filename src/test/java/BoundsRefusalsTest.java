@@ -28,45 +28,10 @@ public final class BoundsRefusalsTest {
         c.finish();
     }
 
-    /**
-     * Towns old, new, far, and gap joined to old from 10 on; streets elm (by SIDES) and oak in old, ash and elm in new;
-     * doors 0 to 2 in elm, 3 and 4 in oak from 20 on; back 5, court 6 and floor 7 under 0; 8 in ash, gone.
-     */
+    /** That of the twins, with an image that differs from what is there then. */
     private static void history(DoorOffice x) {
-        for (String town : new String[] {"old", "new", "far", "gap"}) {
-            Checks.town(x, town);
-        }
-        Checks.tell(x, "st street").shorten();
-        Checks.street(x, "elm", 0, 0, 5);
-        Checks.street(x, "oak street", 0, 3, 5);
-        Checks.street(x, "ash", 1, 3, 0);
-        Checks.street(x, "elm", 1, 3, 0);
-        x.join(0, 3, 10);
-        x.day(15);
-        int[][] doors = {{0, 0, 10, 16}, {0, 0, 20, 17}, {0, 1, 10, 32}, {1, 0, 10, 16}, {1, 0, 20, 17}};
-        for (int[] d : doors) {
-            x.door(d[0], d[1], d[2], d[3], 20);
-        }
-        x.under(2, 0, 0, 20);
-        x.under(3, 5, 1, 20);
-        x.under(4, 0, 3, 20);
-        x.door(2, 0, 10, 80, 0);
-        x.gone(8, 30);
-        Checks.tell(x, Checks.wholes(32, 16)).row(0, 0);
-        x.stop(0, 2);
-        x.stop(1, 0);
-        x.walk(20);
-        Checks.letter(x, "elm 1, old", 20);
-        x.sort();
-        Checks.letter(x, "elm 1a, old", 20);
-        Checks.letter(x, "elm 1, old", 20);
-        x.twice(0, 0, 1);
         x.image(0);
-        Checks.call(x, "ash 5, new", 40);
-        Checks.means(x, "elm 1 back, old", 20);
-        x.write(6, 0, 20);
-        x.day(25);
-        x.as(20);
+        Twins.history(x);
     }
 
     private static void fullHistory(DoorOffice x) {

@@ -362,8 +362,10 @@ public final class BoundsTextsTest {
 
     private static void wholesInOrder() {
         c.sentence("NUMBERS as wholes: 16 times the digits, and 0, 1 .. 8 for a .. h, 9 for +: they are in this order");
-        String[] numbers = {"1", "1a", "1b", "1c", "1d", "1e", "1f", "1g", "1h", "1+", "2", "2a", "9999", "9999+"};
-        int[] wholes = {16, 17, 18, 19, 20, 21, 22, 23, 24, 25, 32, 33, 159984, 159993};
+        String[] numbers = {"1", "1a", "1b", "1c", "1d", "1e", "1f", "1g", "1h", "1+", "2", "2a", "9h", "10", "99+", "100", "101d",
+            "999", "1000", "1001", "1010b", "9009", "9999", "9999+"};
+        int[] wholes = {16, 17, 18, 19, 20, 21, 22, 23, 24, 25, 32, 33, 152, 160, 1593, 1600, 1620,
+            15984, 16000, 16016, 16162, 144144, 159984, 159993};
         DoorOffice x = Checks.withStreet(3);
         for (int i = 0; i < wholes.length; i++) {
             c.due("door " + numbers[i], x.door(0, 0, 10 * i, wholes[i], 0), i);

@@ -132,6 +132,14 @@ public final class BoundsWalksTest {
         c.due("way 0", walk(x, 0, 0), "1 2 3 0");
         c.due("way 1", walk(x, 1, 0), "1 0 2 3");
         c.due("way 2", walk(x, 2, 0), "3 2 0 1");
+        DoorOffice y = Checks.withStreet(3);
+        int[][] places = {{0, 11}, {1, 10}, {1, 20}, {0, 21}};
+        for (int[] d : places) {
+            y.door(0, d[0], d[1], 0, 0);
+            y.renumber(0, 3, 0);
+        }
+        c.due("a pace counts ahead of the side, rising", walk(y, 1, 0), "1 0 2 3");
+        c.due("a pace counts ahead of the side, falling", walk(y, 2, 0), "3 2 0 1");
     }
 
     private static void eachDoorOnce() {
@@ -227,6 +235,13 @@ public final class BoundsWalksTest {
         c.due("100", x.walk(0), 100);
         c.due("the last one", x.walked(99), 1);
         c.due("there is no more", x.walked(100), NONE);
+        c.due("the whole list", x.list(0), 594);
+        c.due("taken", x.take(), 594);
+        c.due("checked", x.check(0), NONE);
+        c.due("none told", x.check(0), 1000);
+        c.due("door 99 is a back", Checks.tell(x, Checks.bytes(99, 0, 0, 0, 0, 0)).check(0), 0);
+        c.due("door 100 is none", Checks.tell(x, Checks.bytes(100, 0, 0, 0, 0, 0)).check(0), 0);
+        c.due("door 100 is none, by its second place", Checks.tell(x, Checks.bytes(100, 0, 1, 255, 255, 255)).check(0), 0);
         c.due("the back behind its door", x.walked(51), 99);
     }
 
@@ -477,6 +492,11 @@ public final class BoundsWalksTest {
             c.due("a piece of " + n + " behind one", check(5, append(records(1), piece)), 1);
             c.due("a piece of " + n + " behind all", check(5, append(records(0, 1, 2), piece)), 3);
             c.due("a piece of " + n + " on a list of none", Checks.tell(new DoorOffice(), Checks.bytes(piece)).check(0), 0);
+            DoorOffice x = listed();
+            x.list(5);
+            x.take();
+            x.end(12 + n);
+            c.due("what was cut off is not there any more, " + n, x.check(5), 2);
         }
     }
 
