@@ -27,6 +27,7 @@ public final class BoundsAskedTest {
         likelyWithExtra();
         likelyByFewerUnknown();
         likelyBySideAndPaces();
+        likelyAll100();
         meansRefused();
         faultOfTheLatest();
         foundNone();
@@ -37,6 +38,7 @@ public final class BoundsAskedTest {
         endedAheadOfAny();
         endedOfTheLatestOld();
         twiceOfStreets();
+        twiceOfFiftyPairs();
         twiceOfTowns();
         twiceRefused();
         pairOfTheLatest();
@@ -452,6 +454,21 @@ public final class BoundsAskedTest {
         }
     }
 
+    private static void likelyAll100() {
+        c.sentence("26: FOUND are the doors that it means, how many: all 100");
+        DoorOffice x = Checks.withStreet(3);
+        for (int i = 0; i < 100; i++) {
+            x.door(0, i % 2, 99 * i, 0, 0);
+        }
+        x.renumber(0, 3, 0);
+        c.due("100", Checks.means(x, "elm 7, old", 0), 100);
+        c.due("count", x.count(9), 100);
+        for (int i = 0; i < 100; i++) {
+            c.due("found " + i, x.found(i, 0), i < 50 ? 2 * i : 2 * i - 99);
+        }
+        c.due("no more", x.found(100, 0), NONE);
+    }
+
     private static void meansRefused() {
         c.sentence("26: -2 with a FAULT, or no such day (FOUND stays)");
         DoorOffice x = office();
@@ -578,13 +595,14 @@ public final class BoundsAskedTest {
         x.under(4, 0, 1, 10);
         x.door(0, 0, 50, 0, 10);
         x.renumber(0, 0, 20);
+        x.renumber(1, 0, 15);
         Checks.rename(x, "fir", 1, 20);
         x.gone(0, 30);
         x.gone(6, 30);
         x.gone(1, 30);
-        String[] addresses = {"elm 1 floor 1, old", "elm 2, old", "elm 3, old", "fir 1, old", "oak 1, old", "elm 1, old"};
-        int[] due = {-105, -106, -106, -101, -101, -100};
-        int[] dueKnown = {NONE, NONE, NONE, NONE, 1, 0};
+        String[] addresses = {"elm 1 floor 1, old", "elm 2, old", "elm 3, old", "fir 1, old", "oak 2, old", "oak 1, old", "elm 1, old"};
+        int[] due = {-105, -106, -106, -101, -100, -101, -100};
+        int[] dueKnown = {NONE, NONE, NONE, NONE, NONE, 1, 0};
         for (int i = 0; i < addresses.length; i++) {
             x.as(9);
             c.due("as known on its day: " + addresses[i], Checks.call(x, addresses[i], 50), due[i]);
@@ -672,6 +690,20 @@ public final class BoundsAskedTest {
         x.undo();
         c.due("taken back", x.twice(0, 1, 0), 2);
         c.due("the other way", Checks.pairs(x), "2-0 3-1");
+    }
+
+    private static void twiceOfFiftyPairs() {
+        c.sentence("31: how many: as many as 100 doors can be");
+        DoorOffice x = Checks.withStreet(3);
+        Checks.street(x, "oak", 0, 3, 0);
+        for (int i = 0; i < 100; i++) {
+            x.door(i / 50, 0, i, 1600 - 16 * (i < 50 ? 49 - i : 99 - i), 0);
+        }
+        c.due("fifty", x.twice(0, 0, 1), 50);
+        for (int i = 0; i < 50; i++) {
+            c.due("pair " + i + ", a", x.pair(i, 0), i);
+            c.due("pair " + i + ", b", x.pair(i, 1), 50 + i);
+        }
     }
 
     private static void twiceOfTowns() {

@@ -1,4 +1,7 @@
+import java.nio.ByteBuffer;
+import java.nio.charset.StandardCharsets;
 import java.util.function.Consumer;
+import java.util.function.Function;
 
 /** Promises 19 to 21 once more: what is taken back, or gone back to, leaves nothing of what was there in between. */
 public final class BoundsImagesTest {
@@ -12,6 +15,7 @@ public final class BoundsImagesTest {
         undoLeavesNothing();
         undoOfCorners();
         imageOfAFullOffice();
+        imageOfAFullDesk();
         c.finish();
     }
 
@@ -216,5 +220,91 @@ public final class BoundsImagesTest {
         c.due("the last corner's paces", x.about(75, 7), 9075);
         c.due("all are walked", x.walk(0), 100);
         c.due("all are listed", x.list(0), 6 * 176);
+    }
+
+    private static final String[] LONG_NAMES = {"abcdefghia", "abcdefghib", "abcdefghic"};
+
+    /** A letter of twenty bytes needs no end(), so that many fit into 512 calls. */
+    private static void longLetter(DoorOffice x, int i) {
+        byte[] text = (LONG_NAMES[i % 2] + " " + (10 + i * 7 % 25) + ", klmno").getBytes(StandardCharsets.ISO_8859_1);
+        ByteBuffer numbers = ByteBuffer.wrap(text);
+        x.feed(numbers.getInt(), numbers.getInt(), numbers.getInt(), numbers.getInt(), numbers.getInt());
+        x.letter(0);
+    }
+
+    /** 100 doors walked, 24 stops, 50 letters sorted and 50 more, 50 doors found, 25 pairs. */
+    private static void fullDesk(DoorOffice x) {
+        Checks.town(x, "klmno");
+        for (String name : LONG_NAMES) {
+            Checks.street(x, name, 0, 3, 0);
+        }
+        for (int i = 0; i < 50; i++) {
+            x.door(i / 25, 0, i, 160 + 16 * (i % 25), 0);
+        }
+        for (int i = 0; i < 50; i++) {
+            x.door(2, i % 2, i, 0, 0);
+        }
+        x.renumber(2, 3, 0);
+        for (int i = 0; i < 12; i++) {
+            x.stop(i % 3, i % 3);
+        }
+        x.walk(0);
+        for (int i = 0; i < 12; i++) {
+            x.stop(i % 2, 2);
+        }
+        for (int i = 0; i < 50; i++) {
+            longLetter(x, i);
+        }
+        x.sort();
+        for (int i = 50; i > 0; i--) {
+            longLetter(x, i);
+        }
+        Checks.means(x, LONG_NAMES[2] + " 7, klmno", 0);
+        x.twice(0, 0, 1);
+    }
+
+    private static void otherDesk(DoorOffice x) {
+        x.stop(0, DoorOffice.NONE);
+        x.stop(1, 2);
+        x.walk(0);
+        x.sort();
+        for (int i = 3; i < 9; i++) {
+            longLetter(x, i);
+        }
+        x.sort();
+        longLetter(x, 7);
+        Checks.means(x, LONG_NAMES[1] + " 12, klmno", 0);
+        x.twice(0, 1, 0);
+    }
+
+    private static void dueDesk(String what, int many, Function<DoorOffice, String> asked) {
+        DoorOffice x = new DoorOffice();
+        fullDesk(x);
+        String before = asked.apply(x);
+        c.due(what + ", how many", before.split(" ").length, many);
+        DoorOffice y = new DoorOffice();
+        fullDesk(y);
+        y.image(0);
+        otherDesk(y);
+        y.back(0);
+        c.due(what, asked.apply(y), before);
+    }
+
+    private static void imageOfAFullDesk() {
+        c.sentence("21: All is as it was when an image was made: FOUND, PAIRS, STOPS, the walk, LETTERS, as they were SORTED");
+        DoorOffice full = new DoorOffice();
+        fullDesk(full);
+        c.due("stops", full.count(7), 24);
+        c.due("letters", full.count(8), 50);
+        c.due("found", full.count(9), 50);
+        full.stop(0, DoorOffice.NONE);
+        c.due("a stop beside all that", full.stop(0, 1), 1);
+        c.due("a walk beside all that", full.walk(0), 25);
+        dueDesk("walked", 100, Checks::walked);
+        dueDesk("sorted", 50, Checks::sorted);
+        dueDesk("found", 50, Checks::found);
+        dueDesk("pairs", 25, Checks::pairs);
+        dueDesk("stops", 101, x -> x.count(7) + " " + x.walk(0) + Checks.walked(x));
+        dueDesk("letters", 51, x -> x.sort() + " " + Checks.sorted(x));
     }
 }
