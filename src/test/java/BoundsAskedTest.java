@@ -801,9 +801,7 @@ public final class BoundsAskedTest {
         c.due("behind it there is none", y.free(0, 0, 21), -4);
         x.gone(1, LAST);
         c.due("it is gone from the last day on", x.free(0, 0, 20), 48);
-        while (x.count(3) < 200) {
-            x.renumber(0, 0, LAST);
-        }
+        Checks.fillPapers(x, 0, 0, LAST, 200);
         c.due("there is no room for a door", x.door(0, 0, 20, 0, LAST), -6);
         c.due("but there is a number", x.free(0, 0, 20), 48);
     }

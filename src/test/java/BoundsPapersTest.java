@@ -323,9 +323,7 @@ public final class BoundsPapersTest {
     private static void streetRoom() {
         c.sentence("9: -6 there is no room for a street or a PAPER");
         DoorOffice x = Checks.withStreet(0);
-        while (x.count(3) < 199) {
-            x.renumber(0, 0, 0);
-        }
+        Checks.fillPapers(x, 0, 0, 0, 199);
         c.due("the 200th paper", Checks.street(x, "oak", 0, 0, 0), 1);
         c.due("a 201st", Checks.street(x, "ash", 0, 0, 0), -6);
         c.due("streets", x.count(1), 2);
@@ -388,9 +386,7 @@ public final class BoundsPapersTest {
     private static void doorRoom() {
         c.sentence("10: -6 200 PAPERS");
         DoorOffice x = Checks.withStreet(3);
-        while (x.count(3) < 199) {
-            x.renumber(0, 3, 0);
-        }
+        Checks.fillPapers(x, 0, 3, 0, 199);
         c.due("the 200th paper", x.door(0, 0, 10, 0, 0), 0);
         c.due("a 201st", x.door(0, 0, 20, 0, 0), -6);
         c.due("doors", x.count(2), 1);
@@ -480,9 +476,7 @@ public final class BoundsPapersTest {
     private static void cornerRoom() {
         c.sentence("11: -6 200 PAPERS");
         DoorOffice x = twoStreets();
-        while (x.count(3) < 199) {
-            x.renumber(0, 0, 0);
-        }
+        Checks.fillPapers(x, 0, 0, 0, 199);
         c.due("the 200th paper", x.corner(0, 1, 0, 20, 0, 0), 32);
         c.due("a 201st", x.corner(1, 0, 1, 20, 0, 0), -6);
         c.due("it is no corner", x.about(1, 0), 0);
@@ -539,9 +533,7 @@ public final class BoundsPapersTest {
     private static void underRoom() {
         c.sentence("12: -6 200 PAPERS");
         DoorOffice x = twoStreets();
-        while (x.count(3) < 199) {
-            x.renumber(0, 0, 0);
-        }
+        Checks.fillPapers(x, 0, 0, 0, 199);
         c.due("the 200th paper", x.under(4, 0, 9, 0), 5);
         c.due("a 201st", x.under(4, 0, 10, 0), -6);
         c.due("doors", x.count(2), 6);
@@ -585,9 +577,7 @@ public final class BoundsPapersTest {
         y.renumber(0, 3, 5);
         c.due("too early", y.gone(0, 4), -3);
         c.due("a court, too early", y.gone(3, 4), -3);
-        while (y.count(3) < 199) {
-            y.renumber(1, 3, 0);
-        }
+        Checks.fillPapers(y, 1, 3, 0, 199);
         c.due("the 200th paper", y.gone(3, 5), 1);
         c.due("a 201st", y.gone(0, 5), -6);
         c.due("it stands", y.stands(0, LAST), true);
@@ -677,9 +667,7 @@ public final class BoundsPapersTest {
         c.due("the one it was joined to goes on", x.join(2, 0, 0), 2);
         c.due("the name of its first town", Checks.means(x, "elm 1, old", 0), 0);
         c.due("the name of its town", Checks.means(x, "elm 1, far", 0), 1);
-        while (x.count(3) < 199) {
-            x.renumber(0, 3, 0);
-        }
+        Checks.fillPapers(x, 0, 3, 0, 199);
         Checks.town(x, "gap");
         Checks.town(x, "pit");
         c.due("the 200th paper", x.join(2, 3, 0), 0);

@@ -36,9 +36,7 @@ public final class BoundsRefusalsTest {
 
     private static void fullHistory(DoorOffice x) {
         history(x);
-        while (x.count(3) < 200) {
-            x.renumber(3, 3, 0);
-        }
+        Checks.fillPapers(x, 3, 3, 0, 200);
     }
 
     private static int firstOf(int bits, int[] codes) {

@@ -77,46 +77,58 @@ final class Checks {
         return bytes;
     }
 
+    /** What is asked by a number from 0 on, up to the first NONE; each is asked once, as calls are counted. */
+    private interface Item {
+        int at(int i);
+    }
+
+    private static String items(Item first, Item second, String between) {
+        StringBuilder text = new StringBuilder();
+        int item = first.at(0);
+        for (int i = 0; item != DoorOffice.NONE; i++) {
+            text.append(i == 0 ? "" : " ").append(item);
+            if (second != null) {
+                text.append(between).append(second.at(i));
+            }
+            item = first.at(i + 1);
+        }
+        return text.toString();
+    }
+
     /** OUT as a text. */
     static String out(DoorOffice x) {
         StringBuilder text = new StringBuilder();
-        for (int i = 0; x.out(i) != DoorOffice.NONE; i++) {
-            text.append((char) x.out(i));
+        int next = x.out(0);
+        while (next != DoorOffice.NONE) {
+            text.append((char) next);
+            next = x.out(text.length());
         }
         return text.toString();
     }
 
     /** The doors FOUND, each with ! if it is SURE. */
     static String found(DoorOffice x) {
-        StringBuilder text = new StringBuilder();
-        for (int i = 0; x.found(i, 0) != DoorOffice.NONE; i++) {
-            text.append(i == 0 ? "" : " ").append(x.found(i, 0)).append(x.found(i, 1) == 1 ? "!" : "");
-        }
-        return text.toString();
+        return items(i -> x.found(i, 0), i -> x.found(i, 1), "?").replace("?0", "").replace("?1", "!");
     }
 
     static String walked(DoorOffice x) {
-        StringBuilder text = new StringBuilder();
-        for (int i = 0; x.walked(i) != DoorOffice.NONE; i++) {
-            text.append(i == 0 ? "" : " ").append(x.walked(i));
-        }
-        return text.toString();
+        return items(i -> x.walked(i), null, "");
     }
 
     static String pairs(DoorOffice x) {
-        StringBuilder text = new StringBuilder();
-        for (int i = 0; x.pair(i, 0) != DoorOffice.NONE; i++) {
-            text.append(i == 0 ? "" : " ").append(x.pair(i, 0)).append('-').append(x.pair(i, 1));
-        }
-        return text.toString();
+        return items(i -> x.pair(i, 0), i -> x.pair(i, 1), "-");
     }
 
     static String sorted(DoorOffice x) {
-        StringBuilder text = new StringBuilder();
-        for (int i = 0; x.sorted(i, 0) != DoorOffice.NONE; i++) {
-            text.append(i == 0 ? "" : " ").append(x.sorted(i, 0)).append('>').append(x.sorted(i, 1));
+        return items(i -> x.sorted(i, 0), i -> x.sorted(i, 1), ">");
+    }
+
+    /** Papers on a street that change nothing but their own number, until there are so many. */
+    static void fillPapers(DoorOffice x, int street, int rule, int from, int many) {
+        int there = x.count(3);
+        for (int i = there; i < many; i++) {
+            x.renumber(street, rule, from);
         }
-        return text.toString();
     }
 
     static int town(DoorOffice x, String name) {

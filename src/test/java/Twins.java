@@ -16,7 +16,8 @@ final class Twins {
         "elm 1, far", "st 1, old"};
     private static final List<Function<DoorOffice, String>> PICTURE = List.of(Twins::counts, Twins::abouts, Twins::numbers,
         Twins::desk, Twins::out, Twins::lists, Twins::writes, Twins::addresses, Twins::calls, Twins::walks, Twins::sorts,
-        Twins::rows, Twins::taken, Twins::earliest, Twins::imaged, Twins::allKnown, Twins::places, Twins::names);
+        Twins::rows, Twins::taken, Twins::earliest, Twins::earliestInTowns, Twins::imaged, Twins::allKnown, Twins::places,
+        Twins::names);
 
     private Twins() { }
 
@@ -205,7 +206,7 @@ final class Twins {
     private static String writes(DoorOffice x) {
         StringBuilder text = new StringBuilder("writes");
         for (int door = 0; door < 11; door++) {
-            for (int day : DAYS) {
+            for (int day : new int[] {20, 35}) {
                 text.append(' ').append(x.write(door, 0, day)).append(' ').append(x.write(door, 1, day));
             }
         }
@@ -247,36 +248,39 @@ final class Twins {
             x.tear(0, 0, 1);
             text.append(' ').append(x.renumber(street, 3, LAST));
         }
+        x.as(NONE);
         for (int door = 0; door < 25; door++) {
             text.append(' ').append(x.number(door, 0, LAST, 0)).append(' ').append(x.number(door, 1, LAST, 0));
         }
-        x.as(NONE);
-        return text + numbers(x);
+        return text.toString();
     }
 
     private static String taken(DoorOffice x) {
         StringBuilder text = new StringBuilder("taken");
         for (int i = 0; i < 30; i++) {
-            text.append(' ').append(x.undo());
-            for (int what = 1; what <= 4; what++) {
-                text.append(' ').append(x.count(what));
-            }
-            text.append(' ').append(x.count(100)).append(' ').append(x.count(101)).append(' ').append(x.count(102));
+            text.append(' ').append(x.undo()).append(' ').append(x.count(1)).append(' ').append(x.count(2));
+            text.append(' ').append(x.count(4)).append(' ').append(x.count(100 + i % 3));
         }
         return text.toString();
     }
 
-    /** The first day on which a paper may be laid on each street, and in each town. */
+    /** The first day on which a paper may be laid on each street. */
     private static String earliest(DoorOffice x) {
         StringBuilder text = new StringBuilder("earliest");
         for (int day : new int[] {0, 1, 5, 8, 9, 10, 11, 12, 19, 20, 29, 30, 34, 35, 37}) {
             for (int street = 0; street < 5; street++) {
                 text.append(' ').append(x.door(street, 0, 10, 0, day));
             }
-            for (int town = 0; town < 4; town++) {
-                x.feed(0x7a6564ff, 0, 0, 0, 0);
-                x.end(3);
-                text.append(' ').append(x.street(town, 0, day));
+        }
+        return text.toString();
+    }
+
+    /** The first day from which each town may have another street. */
+    private static String earliestInTowns(DoorOffice x) {
+        StringBuilder text = new StringBuilder("earliest in towns");
+        for (int day : new int[] {0, 8, 9, 10, 37}) {
+            for (int town = 0; town < 5; town++) {
+                text.append(' ').append(Checks.street(x, "zed", town, 0, day));
             }
         }
         return text.toString();
