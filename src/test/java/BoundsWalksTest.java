@@ -18,6 +18,7 @@ public final class BoundsWalksTest {
         walkRefused();
         walkedNone();
         walkOf100Doors();
+        besideAFullDesk();
         upTo60Letters();
         letterRefused();
         lettersThatMeanSure();
@@ -243,6 +244,30 @@ public final class BoundsWalksTest {
         c.due("door 100 is none", Checks.tell(x, Checks.bytes(100, 0, 0, 0, 0, 0)).check(0), 0);
         c.due("door 100 is none, by its second place", Checks.tell(x, Checks.bytes(100, 0, 1, 255, 255, 255)).check(0), 0);
         c.due("the back behind its door", x.walked(51), 99);
+    }
+
+    private static void besideAFullDesk() {
+        c.sentence("36 to 40: walks and LETTERS do not ask how many doors are FOUND or LETTERS were SORTED");
+        DoorOffice x = Checks.withStreet(3);
+        Checks.street(x, "oak", 0, 3, 0);
+        x.door(0, 0, 10, 0, 0);
+        x.under(4, 0, 2, 0);
+        x.under(4, 0, 1, 0);
+        for (int i = 0; i < 97; i++) {
+            x.door(1, 0, i, 0, 0);
+        }
+        x.renumber(1, 3, 0);
+        for (int i = 0; i < 20; i++) {
+            Checks.letter(x, "elm 1, old", 0);
+        }
+        c.due("sorted", x.sort(), 20);
+        c.due("found", Checks.means(x, "oak 7, old", 0), 97);
+        c.due("a walk", walk(x, 0, 0), "0 2 1");
+        c.due("a letter", Checks.letter(x, "elm 1 floor 1, old", 0), 1);
+        c.due("it is sorted", x.sort(), 1);
+        c.due("it is sorted", Checks.sorted(x), "0>2");
+        Checks.means(x, "elm 1, old", 0);
+        c.due("one found", walk(x, 1, 0), "0 2 1");
     }
 
     private static void upTo60Letters() {
