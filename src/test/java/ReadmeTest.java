@@ -42,8 +42,7 @@ public final class ReadmeTest {
         c.finish();
     }
 
-    /** What an end of a command came to. */
-    private record End(int code, String printed) { }
+    private record End(int code, String printed, String errors) { }
 
     private List<String> blocks(String language) {
         List<String> blocks = new ArrayList<>();
@@ -65,11 +64,13 @@ public final class ReadmeTest {
     }
 
     /** A line that fails ends the block, as a reader would stop there. */
-    private static End run(Path folder, String commands) throws Exception {
-        Process p = new ProcessBuilder("bash", "-e", "-c", commands).directory(folder.toFile()).redirectErrorStream(true).start();
+    private End run(Path folder, String commands) throws Exception {
+        Path errors = Files.createTempFile(work, "errors", "");
+        Process p = new ProcessBuilder("bash", "-e", "-c", commands)
+            .directory(folder.toFile()).redirectError(errors.toFile()).start();
         p.getOutputStream().close();
         String printed = new String(p.getInputStream().readAllBytes(), StandardCharsets.UTF_8);
-        return new End(p.waitFor(), printed);
+        return new End(p.waitFor(), printed, Files.readString(errors));
     }
 
     private static void delete(Path folder) throws IOException {
@@ -98,13 +99,13 @@ public final class ReadmeTest {
         Path folder = projectFolder();
         Files.writeString(folder.resolve("Example.java"), block("java", "class Example "));
         End end = run(folder, block("sh", "java -cp build Example"));
-        c.due("the example's commands end with", end.code, 0);
+        c.due("the example's commands end with (" + end.errors + ")", end.code, 0);
         c.due("the example", end.printed, block("text", ""));
     }
 
     private void testsAlone() throws Exception {
         End end = run(projectFolder(), block("sh", "java -cp build WalkTest"));
-        c.due("the commands for tests alone end with (" + end.printed + ")", end.code, 0);
+        c.due("the commands for tests alone end with (" + end.printed + end.errors + ")", end.code, 0);
         long wrongNone = end.printed.lines().filter(line -> line.endsWith(" answers, 0 wrong")).count();
         c.due("tests alone that found nothing wrong", wrongNone, 2);
     }
@@ -141,7 +142,7 @@ public final class ReadmeTest {
         }
         Files.setPosixFilePermissions(project.resolve(SCRIPT), PosixFilePermissions.fromString("rwxr-xr-x"));
         End end = run(project, command);
-        c.due(which + ": the command passes (" + end.printed + ")", end.code == 0, isPass);
+        c.due(which + ": the command passes (" + end.printed + end.errors + ")", end.code == 0, isPass);
         if (isPass) {
             c.due("both tests are run", end.printed.endsWith("\n2 passed, 0 failed\n"), true);
         }
